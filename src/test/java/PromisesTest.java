@@ -331,6 +331,10 @@ public final class PromisesTest {
             Checks.due("isOn " + page, x.isOn(0, page), want);
             Checks.due("isOn of another " + page, x.isOn(1, page), false);
         }
+        x.takePages(0, 40, 100);
+        Checks.due("isOn a page taken", x.isOn(0, 41), false);
+        Checks.due("isOn the last page taken", x.isOn(0, 100), false);
+        Checks.due("isOn the one left", x.isOn(0, 1), true);
         dueNoSuchHeading(x, "isOn", h -> x.isOn(h, 0));
         for (int page : new int[] {0, -1, 101, Integer.MAX_VALUE, Integer.MIN_VALUE}) {
             Checks.dueThrow(x, "isOn page " + page, Checks.ARGUMENT, () -> x.isOn(0, page));
@@ -359,6 +363,13 @@ public final class PromisesTest {
         x.addPages(1, 5, 15);
         x.addPages(1, 100, 100);
         Checks.due("those of both once", x.barePages(), 84);
+        x.addPages(0, 20, 24);
+        x.addPages(1, 20, 24);
+        Checks.due("that start and end as one", x.barePages(), 79);
+        x.takePages(0, 20, 24);
+        Checks.due("taken from one", x.barePages(), 79);
+        x.takePages(1, 20, 24);
+        Checks.due("taken from both", x.barePages(), 84);
         x.putIn(101, 3);
         Checks.due("longer book", x.barePages(), 87);
         x.addPages(0, 1, 103);
@@ -380,6 +391,11 @@ public final class PromisesTest {
         Checks.due("two headings", x.fullestPage(), 45);
         x.addPages(0, 47, 47);
         Checks.due("three headings", x.fullestPage(), 47);
+        x.addPages(0, 43, 43);
+        x.addPages(1, 43, 43);
+        x.addPages(2, 43, 43);
+        Checks.due("three that start and end as one", x.fullestPage(), 43);
+        x.takePages(0, 43, 43);
         x.putIn(1, 100);
         Checks.due("moved on", x.fullestPage(), 147);
         x.putIn(201, 100);
@@ -555,6 +571,9 @@ public final class PromisesTest {
         Checks.due("none with itself", x.commonPages(3, 3), 0);
         x.addPages(3, 1, 100);
         Checks.due("with one on all", x.commonPages(3, 0), 22);
+        x.takePages(0, 25, 100);
+        Checks.due("with pages taken", x.commonPages(3, 0), 11);
+        Checks.due("with pages taken, the other way", x.commonPages(0, 3), 11);
         dueNoSuchHeading(x, "commonPages", h -> x.commonPages(h, 0));
         dueNoSuchHeading(x, "commonPages with", h -> x.commonPages(0, h));
     }
