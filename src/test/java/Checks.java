@@ -1,4 +1,4 @@
-/** What the tests of the project share: checks that print what is not as due, and a picture of an index. */
+/** What the tests of the project share: checks that print what is not as due. */
 final class Checks {
 
     interface Call {
@@ -28,11 +28,14 @@ final class Checks {
         }
     }
 
-    /** Checks that a call throws an exception of just this class, and that the index is as before. */
+    /**
+     * Checks that a call throws an exception of just this class, and that the index is as before, by its digest alone:
+     * an object answers as promised for 512 calls only.
+     */
     static void dueThrow(BookIndex index, String call, Class<?> want, Call made) {
-        String before = picture(index);
+        long before = index.digest();
         due(call, answerOf(made), want.getName());
-        due("the index after " + call, picture(index), before);
+        due("the digest after " + call, index.digest(), before);
     }
 
     /** The answer of a call, or the name of the class of what it throws. */
@@ -42,23 +45,6 @@ final class Checks {
         } catch (RuntimeException thrown) {
             return thrown.getClass().getName();
         }
-    }
-
-    /** All that an index tells of what it holds; the see alsos are told by the steps from each heading. */
-    static String picture(BookIndex index) {
-        StringBuilder all = new StringBuilder();
-        all.append(index.bookPages()).append(" pages");
-        for (int h = 0; h < index.headings(); h++) {
-            all.append("; ").append(h).append(':');
-            for (int s = 0; s < index.spansOf(h); s++) {
-                all.append(' ').append(index.startOf(h, s)).append('-').append(index.endOf(h, s));
-            }
-            all.append(" see ").append(index.seeOf(h)).append(", ").append(index.seeAlsosOf(h)).append(" also, to");
-            for (int other = 0; other < index.headings(); other++) {
-                all.append(index.steps(h, other) == 1 ? " " + other : "");
-            }
-        }
-        return all.append("; ").append(index.digest()).toString();
     }
 
     /** An index with so many headings. */

@@ -1,8 +1,11 @@
-/** Compares the class with the model over many runs of 512 calls, wrong ones among them. */
+/** Compares the class with the model over many runs of 512 calls at most, wrong ones among them. */
 public final class ModelTest {
 
-    private static final int RUNS = 400;
+    private static final int RUNS = 3000;
     private static final int CALLS = 512;
+    // A round makes two changes at most and asks once; all questions without arguments are asked at the end of a few.
+    private static final int CALLS_OF_ROUND = 3;
+    private static final int CALLS_WITHOUT_ARGUMENTS = 8;
 
     private long seed;
     private BookIndex x;
@@ -11,6 +14,7 @@ public final class ModelTest {
     private int width;
     private int headingsWanted;
     private boolean moreBook;
+    private int calls = 0;
 
     private ModelTest(int run) {
         seed = 77 + 1000L * run;
@@ -43,6 +47,7 @@ public final class ModelTest {
     }
 
     private void compare(String call, Checks.Call ofClass, Checks.Call ofModel) {
+        calls++;
         Checks.due(call, Checks.answerOf(ofClass), Checks.answerOf(ofModel));
     }
 
@@ -77,29 +82,33 @@ public final class ModelTest {
         }
     }
 
-    private void callsThatAsk() {
+    private void callThatAsks() {
         int h = someHeading();
         int other = someHeading();
         int page = somePage();
         int span = below(10) - 1;
         int gap = below(3) == 0 ? below(104) - 1 : below(8);
         String ofTwo = "(" + h + ", " + other + ")";
-        compare("spansOf " + h, () -> x.spansOf(h), () -> m.spansOf(h));
-        compare("startOf " + h + ", " + span, () -> x.startOf(h, span), () -> m.startOf(h, span));
-        compare("endOf " + h + ", " + span, () -> x.endOf(h, span), () -> m.endOf(h, span));
-        compare("pagesOf " + h, () -> x.pagesOf(h), () -> m.pagesOf(h));
-        compare("seeOf " + h, () -> x.seeOf(h), () -> m.seeOf(h));
-        compare("seeAlsosOf " + h, () -> x.seeAlsosOf(h), () -> m.seeAlsosOf(h));
-        compare("isOn " + h + ", " + page, () -> x.isOn(h, page), () -> m.isOn(h, page));
-        compare("headingsOn " + page, () -> x.headingsOn(page), () -> m.headingsOn(page));
-        compare("leadsTo " + h, () -> x.leadsTo(h), () -> m.leadsTo(h));
-        compare("steps " + ofTwo, () -> x.steps(h, other), () -> m.steps(h, other));
-        compare("reachOf " + h, () -> x.reachOf(h), () -> m.reachOf(h));
-        compare("isInRing " + h, () -> x.isInRing(h), () -> m.isInRing(h));
-        compare("spansWithGap " + h + ", " + gap, () -> x.spansWithGap(h, gap), () -> m.spansWithGap(h, gap));
-        compare("commonPages " + ofTwo, () -> x.commonPages(h, other), () -> m.commonPages(h, other));
-        compare("nearest " + h, () -> x.nearest(h), () -> m.nearest(h));
-        compare("spansTogether " + ofTwo, () -> x.spansTogether(h, other), () -> m.spansTogether(h, other));
+        switch (below(16)) {
+            case 0 -> compare("spansOf " + h, () -> x.spansOf(h), () -> m.spansOf(h));
+            case 1 -> compare("startOf " + h + ", " + span, () -> x.startOf(h, span), () -> m.startOf(h, span));
+            case 2 -> compare("endOf " + h + ", " + span, () -> x.endOf(h, span), () -> m.endOf(h, span));
+            case 3 -> compare("pagesOf " + h, () -> x.pagesOf(h), () -> m.pagesOf(h));
+            case 4 -> compare("seeOf " + h, () -> x.seeOf(h), () -> m.seeOf(h));
+            case 5 -> compare("seeAlsosOf " + h, () -> x.seeAlsosOf(h), () -> m.seeAlsosOf(h));
+            case 6 -> compare("isOn " + h + ", " + page, () -> x.isOn(h, page), () -> m.isOn(h, page));
+            case 7 -> compare("headingsOn " + page, () -> x.headingsOn(page), () -> m.headingsOn(page));
+            case 8 -> compare("leadsTo " + h, () -> x.leadsTo(h), () -> m.leadsTo(h));
+            case 9 -> compare("steps " + ofTwo, () -> x.steps(h, other), () -> m.steps(h, other));
+            case 10 -> compare("reachOf " + h, () -> x.reachOf(h), () -> m.reachOf(h));
+            case 11 -> compare("isInRing " + h, () -> x.isInRing(h), () -> m.isInRing(h));
+            case 12 -> compare("spansWithGap " + h + ", " + gap, () -> x.spansWithGap(h, gap),
+                    () -> m.spansWithGap(h, gap));
+            case 13 -> compare("commonPages " + ofTwo, () -> x.commonPages(h, other), () -> m.commonPages(h, other));
+            case 14 -> compare("nearest " + h, () -> x.nearest(h), () -> m.nearest(h));
+            default -> compare("spansTogether " + ofTwo, () -> x.spansTogether(h, other),
+                    () -> m.spansTogether(h, other));
+        }
     }
 
     private void compareAll() {
@@ -113,17 +122,23 @@ public final class ModelTest {
         compare("digest", x::digest, m::digest);
     }
 
+    private void run(String name) {
+        int round = 0;
+        while (calls <= CALLS - CALLS_OF_ROUND - CALLS_WITHOUT_ARGUMENTS) {
+            Checks.begin(name + ", round " + round);
+            callThatChanges();
+            callThatAsks();
+            if (round % 32 == 31) {
+                compareAll();
+            }
+            round++;
+        }
+        compareAll();
+    }
+
     public static void main(String[] args) {
         for (int run = 0; run < RUNS; run++) {
-            ModelTest test = new ModelTest(run);
-            for (int call = 0; call < CALLS; call++) {
-                Checks.begin("run " + run + ", call " + call);
-                test.callThatChanges();
-                test.callsThatAsk();
-                if (call % 16 == 15) {
-                    test.compareAll();
-                }
-            }
+            new ModelTest(run).run("run " + run);
         }
         Checks.close("ModelTest");
     }

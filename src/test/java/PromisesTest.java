@@ -678,7 +678,7 @@ public final class PromisesTest {
     private static void manyDigestsOfOneObject() {
         BookIndex x = withEightSpans(24);
         long first = x.digest();
-        for (int i = 0; i < 480; i++) {
+        for (int i = 0; i < 479; i++) {
             Checks.due("digest", x.digest(), first);
         }
     }
