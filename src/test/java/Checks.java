@@ -56,6 +56,16 @@ final class Checks {
         return index;
     }
 
+    /** The spans of a heading, as in "1-2 11-11". */
+    static String spansOf(BookIndex index, int heading) {
+        StringBuilder spans = new StringBuilder();
+        for (int s = 0; s < index.spansOf(heading); s++) {
+            spans.append(s == 0 ? "" : " ");
+            spans.append(index.startOf(heading, s)).append('-').append(index.endOf(heading, s));
+        }
+        return spans.toString();
+    }
+
     static void close(String name) {
         System.out.println(name + ": " + made + " checks, " + wrong + " not as due");
         if (wrong != 0) {

@@ -20,11 +20,7 @@ public final class PromisesTest {
     }
 
     private static void spansDue(BookIndex x, int heading, String want) {
-        StringBuilder spans = new StringBuilder();
-        for (int s = 0; s < x.spansOf(heading); s++) {
-            spans.append(s == 0 ? "" : " ").append(x.startOf(heading, s)).append('-').append(x.endOf(heading, s));
-        }
-        Checks.due("the spans of " + heading, spans.toString(), want);
+        Checks.due("the spans of " + heading, Checks.spansOf(x, heading), want);
     }
 
     /** An index whose heading 0 has 8 spans: 1-2, 11-12 .. 71-72. */
