@@ -179,7 +179,8 @@ public final class DocumentTest {
         names("Pages.");
         says("The book has 1 to 300 pages,", refuses(Checks.STATE, Edges.book(1), x -> x.takeOut(1)),
                 refuses(Checks.STATE, Edges.book(300), x -> x.putIn(300, 1)));
-        says("numbered from 1", is(SPANS, x -> x.headingsOn(1), 0), refuses(Checks.ARGUMENT, SPANS, x -> x.headingsOn(0)));
+        says("numbered from 1", is(SPANS, x -> x.headingsOn(1), 0),
+                refuses(Checks.ARGUMENT, SPANS, x -> x.headingsOn(0)));
         says("(100, at first).", is(NONE, BookIndex::bookPages, 100));
         names("Headings.");
         says("At most 24,", refuses(Checks.STATE, ALL, BookIndex::addHeading));
@@ -289,7 +290,8 @@ public final class DocumentTest {
     private static void addPages() {
         says("Puts pages to a heading;", does(SPANS, x -> x.addPages(2, 40, 44), 1, 2, "40-44"));
         says("spans that then have a page in common,", does(SPANS, x -> x.addPages(0, 5, 7), 2, 0, "4-7 9-9"),
-                does(SPANS, x -> x.addPages(0, 6, 9), 1, 0, "4-9"), does(SPANS, x -> x.addPages(1, 1, 20), 1, 1, "1-20"));
+                does(SPANS, x -> x.addPages(0, 6, 9), 1, 0, "4-9"),
+                does(SPANS, x -> x.addPages(1, 1, 20), 1, 1, "1-20"));
         says("or no page between them, become one.", does(SPANS, x -> x.addPages(0, 10, 11), 2, 0, "4-6 9-11"),
                 does(SPANS, x -> x.addPages(0, 11, 11), 3, 0, "4-6 9-9 11-11"),
                 does(SPANS, x -> x.addPages(0, 7, 8), 1, 0, "4-9"));
@@ -430,7 +432,8 @@ public final class DocumentTest {
     private static void whatThereIs() {
         says("Returns how many pages the book has.", is(Edges.book(1), BookIndex::bookPages, 1),
                 is(Edges.book(300), BookIndex::bookPages, 300));
-        says("Returns how many headings there are.", is(THREE, BookIndex::headings, 3), is(ALL, BookIndex::headings, 24));
+        says("Returns how many headings there are.", is(THREE, BookIndex::headings, 3),
+                is(ALL, BookIndex::headings, 24));
         names("a heading");
         says("Returns how many spans it has.", is(SPANS, x -> x.spansOf(0), 2), is(SPANS, x -> x.spansOf(2), 0));
         says("Throws `IndexOutOfBoundsException` if there is no such heading", needsHeading(BookIndex::spansOf));
@@ -439,7 +442,8 @@ public final class DocumentTest {
         says("Returns its first page.", is(SPANS, x -> x.startOf(0, 1), 9), is(EIGHT, x -> x.startOf(0, 7), 71));
         says("Throws `IndexOutOfBoundsException` if there is no such heading or span",
                 needsHeading((x, h) -> x.startOf(h, 0)), refuses(Checks.INDEX, SPANS, x -> x.startOf(0, 2)),
-                refuses(Checks.INDEX, SPANS, x -> x.startOf(0, -1)), refuses(Checks.INDEX, SPANS, x -> x.startOf(2, 0)));
+                refuses(Checks.INDEX, SPANS, x -> x.startOf(0, -1)),
+                refuses(Checks.INDEX, SPANS, x -> x.startOf(2, 0)));
         names("a heading");
         says("one of its spans, from 0 on", is(SPANS, x -> x.endOf(0, 0), 6));
         says("Returns its last page.", is(SPANS, x -> x.endOf(0, 1), 9), is(EIGHT, x -> x.endOf(0, 7), 72));
@@ -462,7 +466,8 @@ public final class DocumentTest {
     private static void pages() {
         names("a heading");
         names("a page");
-        says("Returns whether it is on this page.", is(SPANS, x -> x.isOn(0, 6), true), is(SPANS, x -> x.isOn(0, 7), false),
+        says("Returns whether it is on this page.", is(SPANS, x -> x.isOn(0, 6), true),
+                is(SPANS, x -> x.isOn(0, 7), false),
                 is(SPANS, x -> x.isOn(0, 3), false), is(SPANS, x -> x.isOn(0, 9), true));
         says("Throws `IndexOutOfBoundsException` if there is no such heading", needsHeading((x, h) -> x.isOn(h, 1)));
         says("Throws `IllegalArgumentException` if page is not 1 to the pages of the book",
@@ -476,7 +481,8 @@ public final class DocumentTest {
                 is(SPANS.then(Edges.pages(2, 1, 99)), BookIndex::barePages, 1));
         says("Returns the page with the most headings,",
                 is(SPANS.then(Edges.pages(2, 9, 20)), BookIndex::fullestPage, 9));
-        says("of several the smallest one.", is(SPANS, BookIndex::fullestPage, 6), is(THREE, BookIndex::fullestPage, 1));
+        says("of several the smallest one.", is(SPANS, BookIndex::fullestPage, 6),
+                is(THREE, BookIndex::fullestPage, 1));
     }
 
     private static void whereOneIsLed() {
